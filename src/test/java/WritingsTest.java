@@ -110,7 +110,7 @@ public final class WritingsTest {
 
     public static void main(String[] args) {
         Random random = new Random(args.length > 0 ? Long.parseLong(args[0]) : 7);
-        for (int i = 0; i < 400; i++) {
+        for (int i = 0; i < 1000; i++) {
             String text = richCustom(random);
             int n = someWorth(Plain.readCustom(text), random);
             n = random.nextInt(4) == 0 ? n % 5000 : n;
