@@ -791,7 +791,8 @@ public final class LetterSums {
 
         private boolean isWhole(int state) {
             int open = openIn(state);
-            return open == 0 || canBePlain(state, signIn(state), open);
+            int sign = signIn(state);
+            return open == 0 || standingOf(state, sign) + open <= counts[sign];
         }
 
         private int leaveOpen(int state, int sign, int open) {
@@ -802,28 +803,24 @@ public final class LetterSums {
             // two like signs are not a plain one and one taken once: that head would be too great
             int heads = open == 1 ? once[sign] | twice[sign] : twice[sign];
             boolean canBeTaken = (heads & (1 << below) - 1) != 0;
-            if (!canBeTaken && !canBePlain(state, sign, open)) {
+            boolean canBePlain = standingOf(state, sign) + open <= counts[sign];
+            if (!canBeTaken && !canBePlain) {
                 return DEAD;
             }
-            return below | standingIn(state) << STANDING_SHIFT | sign << SIGN_SHIFT | open << OPEN_SHIFT;
+            int closed = state & (1 << SIGN_SHIFT) - 1;
+            return closed | sign << SIGN_SHIFT | open << OPEN_SHIFT;
         }
 
         private int closePlain(int state, int number) {
             int sign = signIn(state);
-            if (!canBePlain(state, sign, number)) {
-                return DEAD;
-            }
-            return sign + 1 | standingOf(state, sign) + number << STANDING_SHIFT;
+            int standing = standingOf(state, sign) + number;
+            return standing <= counts[sign] ? sign + 1 | standing << STANDING_SHIFT : DEAD;
         }
 
         private int closeTaking(int state, int head) {
             int sign = signIn(state);
             boolean may = openIn(state) == 1 ? mayTakeOnce(sign, head) : mayTakeTwice(sign, head);
             return may && head < belowIn(state) ? sign : DEAD;
-        }
-
-        private boolean canBePlain(int state, int sign, int number) {
-            return standingOf(state, sign) + number <= counts[sign];
         }
 
         private boolean mayTakeOnce(int sign, int head) {
@@ -835,15 +832,12 @@ public final class LetterSums {
         }
 
         private static int standingOf(int state, int sign) {
-            return sign == belowIn(state) - 1 ? standingIn(state) : 0;
+            boolean isGreatest = sign + 1 == (state & FIELD_MASK);
+            return isGreatest ? state >> STANDING_SHIFT & FIELD_MASK : 0;
         }
 
         private static int belowIn(int state) {
             return state & FIELD_MASK;
-        }
-
-        private static int standingIn(int state) {
-            return state >> STANDING_SHIFT & FIELD_MASK;
         }
 
         private static int signIn(int state) {
@@ -874,6 +868,7 @@ public final class LetterSums {
         /** Stands for the worth of a sign above all: no number reaches it. */
         private static final int BEYOND = GREATEST_NUMBER + 1;
 
+        private final int[] units = new int[SIGNS + 1];
         private final int[] mostTimes = new int[SIGNS + 1];
         private final int[] firstCell = new int[SIGNS + 1];
         private final int[] counts;
@@ -882,16 +877,13 @@ public final class LetterSums {
         private Tally(int more) {
             int cells = 0;
             for (int b = 0; b <= SIGNS; b++) {
-                int below = b == 0 ? 0 : ROW_SIGNS * unit(b - 1) / unit(b);
+                units[b] = b < SIGNS ? WORTH[b] : BEYOND;
+                int below = b == 0 ? 0 : ROW_SIGNS * units[b - 1] / units[b];
                 mostTimes[b] = Math.min(ROW_SIGNS, below + more);
                 firstCell[b] = cells;
                 cells += mostTimes[b] + 1;
             }
             counts = new int[cells * LENGTHS];
-        }
-
-        private static int unit(int b) {
-            return b < SIGNS ? WORTH[b] : BEYOND;
         }
 
         /** Where the counts of a cell begin. */
@@ -904,8 +896,8 @@ public final class LetterSums {
             if (value < 0) {
                 return NONE;
             }
-            int times = value / unit(b);
-            return times > mostTimes[b] ? NONE : startOf(b, times);
+            int times = value / units[b];
+            return times > mostTimes[b] ? NONE : (firstCell[b] + times) * LENGTHS;
         }
 
         private void clearAt(int start) {
@@ -968,7 +960,7 @@ public final class LetterSums {
             custom = asked;
             customNumber = k;
             number = n;
-            lower.clearAt(0);
+            // with no head at all there is the empty row, of worth 0
             lower.counts[0] = 1;
             for (int head = 0; head < SIGNS; head++) {
                 countTakings(head);
@@ -995,7 +987,7 @@ public final class LetterSums {
         }
 
         private void countPlain(int head) {
-            int unit = Tally.unit(head + 1);
+            int unit = lower.units[head + 1];
             for (int times = 0; times <= lower.mostTimes[head + 1]; times++) {
                 int value = number % unit + times * unit;
                 int start = lower.startOf(head + 1, times);
@@ -1274,9 +1266,10 @@ public final class LetterSums {
         private static final int MOST_PLACES = 20;
         private static final int MOST_GAPS = 3;
         private static final int GAP = SIGNS;
-        private final int[] signs = new int[MOST_PLACES];
+        /** Behind a broken end there is one more, a gap that may also have been nothing. */
+        private final int[] signs = new int[MOST_PLACES + 1];
         private int places = 0;
-        private boolean broken = false;
+        private int reach = 0;
 
         private final Row filling = new Row();
         /** Grows with the stones that are read: few have as many gaps as can be. */
@@ -1310,9 +1303,12 @@ public final class LetterSums {
 
         private void carve(Page page) {
             places = placesOn(page);
-            broken = places < page.length;
+            reach = page.length;
             for (int i = 0; i < places; i++) {
                 signs[i] = page.codes[i] == '.' ? GAP : signOf(page.codes[i]);
+            }
+            if (reach > places) {
+                signs[places] = GAP;
             }
             filledBy = NONE;
         }
@@ -1327,14 +1323,14 @@ public final class LetterSums {
             for (int i = 0; i < places; i++) {
                 common[i] = NONE;
             }
-            fillFrom(0, custom, Custom.FRESH);
+            fillFrom(this, 0, custom, Custom.FRESH);
             sortWorths();
             dropLikeWorths();
         }
 
         /** Any sign may stand in each gap, and any or none behind a broken end. */
         private void makeRoom() {
-            int most = broken ? SIGNS + 1 : 1;
+            int most = reach > places ? SIGNS + 1 : 1;
             for (int i = 0; i < places; i++) {
                 most *= signs[i] == GAP ? SIGNS : 1;
             }
@@ -1343,31 +1339,21 @@ public final class LetterSums {
             }
         }
 
-        private void fillFrom(int place, Custom custom, int state) {
-            if (place >= places) {
-                fillEnd(custom, state);
+        private static void fillFrom(Slab slab, int place, Custom custom, int state) {
+            if (place >= slab.places && custom.isWhole(state)) {
+                slab.keepFilling(place);
+            }
+            if (place >= slab.reach || place > MOST_PLACES) {
                 return;
             }
-            int first = signs[place] == GAP ? 0 : signs[place];
-            int last = signs[place] == GAP ? SIGNS - 1 : signs[place];
+            int known = slab.signs[place];
+            int first = known == GAP ? 0 : known;
+            int last = known == GAP ? SIGNS - 1 : known;
             for (int sign = first; sign <= last; sign++) {
                 int next = custom.after(state, sign);
                 if (next != Custom.DEAD) {
-                    filling.signs[place] = sign;
-                    fillFrom(place + 1, custom, next);
-                }
-            }
-        }
-
-        private void fillEnd(Custom custom, int state) {
-            if (custom.isWhole(state)) {
-                keepFilling(places);
-            }
-            for (int sign = 0; broken && sign < SIGNS; sign++) {
-                int next = custom.after(state, sign);
-                if (next != Custom.DEAD && custom.isWhole(next)) {
-                    filling.signs[places] = sign;
-                    keepFilling(places + 1);
+                    slab.filling.signs[place] = sign;
+                    fillFrom(slab, place + 1, custom, next);
                 }
             }
         }
@@ -1416,7 +1402,7 @@ public final class LetterSums {
             for (int i = 0; i < places; i++) {
                 h = mix(h, signs[i]);
             }
-            return mix(h, broken ? 1 : 0);
+            return mix(h, reach > places ? 1 : 0);
         }
     }
 
@@ -1524,24 +1510,16 @@ public final class LetterSums {
         private boolean findSlip() {
             if (!slipSought) {
                 slipSought = true;
-                slipFound = explains(firstWrong());
+                int i = firstWrong();
+                slipFound = i != NONE
+                    && (canBecome(0, amounts[i], totalWorths[i] - totalAhead(i))
+                    || canBecome(1, totals[i], totalAhead(i) + amountWorths[i]));
             }
             return slipFound;
         }
 
-        private boolean explains(int i) {
-            if (i == NONE) {
-                return false;
-            }
-            slipPart = 0;
-            if (canBecome(amounts[i], totalWorths[i] - totalAhead(i))) {
-                return true;
-            }
-            slipPart = 1;
-            return canBecome(totals[i], totalAhead(i) + amountWorths[i]);
-        }
-
-        private boolean canBecome(Row row, int due) {
+        private boolean canBecome(int part, Row row, int due) {
+            slipPart = part;
             return withOneMore(row, due) || withOneLess(row, due) || withOneOther(row, due);
         }
 

@@ -324,19 +324,20 @@ public final class PromisesTest {
     private static void promise12() {
         LetterSums x = customs(USUAL, OLD, "I9,V9,X9,L9,C9,D9,M9,i9,v9,x9,l9,I<VX,X<LC,C<DM,V<L,L<D,i<vx");
         due("1994", x.ways(0, 1994), 2);
-        due("8", x.ways(1, 8), 2);
+        due("8 by the usual custom", x.ways(0, 8), 1);
+        due("8 by the old one", x.ways(1, 8), 2);
         due("none", x.ways(0, 10000), 0);
         due("least", x.ways(0, 1), 1);
         due("greatest", x.ways(0, 9999999), 0);
         due("fewer", x.ways(2, 10000), 4289);
         due("so many or more", x.ways(2, 12000), 5000);
-        due("how often", x.count(4), 7);
+        due("how often", x.count(4), 8);
         long before = x.digest();
         refused("n 0", x, before, x.ways(0, 0), OUTSIDE);
         refused("n 10000000", x, before, x.ways(0, 10000000), OUTSIDE);
         refused("UNKNOWN first", x, before, x.ways(3, 0), UNKNOWN);
         refused("k -1", x, before, x.ways(-1, 1), UNKNOWN);
-        for (int i = 7; i < 39; i++) {
+        for (int i = 8; i < 39; i++) {
             due("ways", x.ways(0, 4), 1);
         }
         custom(x, "I1");
@@ -348,6 +349,7 @@ public final class PromisesTest {
         LetterSums y = customs("I9,V9,X9");
         due("24 signs at most: 9 X, 9 V, 6 I", y.ways(0, 141), 1);
         due("25 signs are needed", y.ways(0, 142), 0);
+        due("of 24 it is the shortest", y.write(0, 0, 141, NONE), 24);
     }
 
     private static void promise13() {
@@ -430,6 +432,13 @@ public final class PromisesTest {
         row(x, 3, "VI");
         refused("100, and V stays", x, x.digest(), x.pour(3, true), FULL);
         due("owed ones are apart", x.pour(3, false), 102);
+        row(x, 2, "IIIIIIIIIIIIIIIIIIIIIIII");
+        for (int i = 0; i < 4; i++) {
+            x.pour(2, false);
+        }
+        row(x, 2, "II");
+        due("99 owed", x.pour(2, false), 200);
+        refused("100 owed", x, x.digest(), x.pour(2, false), FULL);
     }
 
     private static void promise16() {
@@ -457,6 +466,8 @@ public final class PromisesTest {
         refused("99 V are there", x, x.digest(), x.bundle(0), FULL);
         due("of V itself", x.bundle(1), 1);
         due("then there is room", x.bundle(0), 98);
+        due("to 99", x.bundle(0), 99);
+        refused("99 again", x, x.digest(), x.bundle(0), FULL);
     }
 
     /** 99 of a sign. */
@@ -600,6 +611,11 @@ public final class PromisesTest {
         row(x, 0, "I");
         x.pour(0, true);
         refused("25", x, x.digest(), x.lift(2), STATE);
+        x.sweep();
+        row(x, 0, "X");
+        x.pour(0, true);
+        due("one", x.lift(2), 1);
+        same(x, 2, "X");
     }
 
     private static void promise22() {
@@ -647,6 +663,7 @@ public final class PromisesTest {
         due("alike: one line", x.parts(9, 9, 2), 1);
         due("greatest", x.parts(9999, 1, 0), 9999);
         due("greatest lines", x.parts(9999, 1, 2), 14);
+        due("greatest b", x.parts(9999, 9999, 0), 1);
         for (int[] args : new int[][] {{-1, 1, 0}, {10000, 1, 0}, {1, 0, 0}, {1, 10000, 0}, {1, 1, -1}, {1, 1, 4}}) {
             due("parts of " + args[0] + ", " + args[1] + ", " + args[2], x.parts(args[0], args[1], args[2]), OUTSIDE);
         }
@@ -705,6 +722,16 @@ public final class PromisesTest {
         stone(y, ".");
         due("like worths are one", y.could(0), 2);
         due("the greater", y.says(0, 1), 1000);
+        stone(y, "i.");
+        custom(y, "I1,M1,i1,v1");
+        stone(y, ".");
+        due("behind like ones", y.says(1, 2), 5000);
+        due("no more", y.says(1, 3), NONE);
+        stone(x, "..");
+        int[] least = {2, 4, 6, 9, 11, 15};
+        for (int i = 0; i < least.length; i++) {
+            due("the least first: " + i, x.says(0, i), least[i]);
+        }
         stone(y, "i.");
         due("iI, iM", y.says(0, 0) * 10000 + y.says(0, 1), 10012000);
         for (int i = y.count(5); i < 30; i++) {
