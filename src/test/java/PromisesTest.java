@@ -376,12 +376,15 @@ public final class PromisesTest {
         due("of like lengths the first", x.write(2, 3, 14, NONE), 3);
         same(x, 2, "XIV");
         due("no writing", x.write(2, 0, 9999999, NONE), 0);
+        custom(x, "I9,V9,X9,L9,C9,D9,M9,i9,v9,x9,l9,c9,d9,x<m,C<DM,D<M,M<vx,i<vx,v<x,l<c");
+        due("xm is none of the first 5000", x.write(3, 4, 990000, NONE), 10);
+        same(x, 3, "dcccclxxxx");
         due("i 5000", x.write(2, 1, 8, 5000), 0);
         due("i of the greatest", x.write(2, 1, 8, Integer.MAX_VALUE), 0);
         same(x, 2, "XIV");
         long before = x.digest();
         refused("r", x, before, x.write(12, 0, 1, 0), UNKNOWN);
-        refused("k", x, before, x.write(0, 4, 1, 0), UNKNOWN);
+        refused("k", x, before, x.write(0, 5, 1, 0), UNKNOWN);
         refused("n 0", x, before, x.write(0, 0, 0, 0), OUTSIDE);
         refused("n above", x, before, x.write(0, 0, 10000000, 0), OUTSIDE);
         refused("i below NONE", x, before, x.write(0, 0, 1, -2), OUTSIDE);
@@ -696,6 +699,10 @@ public final class PromisesTest {
         due("none", x.could(0), 0);
         stone(x, "XI*");
         due("XI, XII, XIV, XIX", x.could(0), 4);
+        custom(x, "m9,d9,c3");
+        due("20 places, broken", stone(x, "mmmmmmmmmdddddddddcc*"), 20);
+        due("cc and ccc", x.could(2), 2);
+        stone(x, "XI*");
         for (int i = x.count(5); i < 28; i++) {
             x.says(0, 0);
         }
@@ -878,6 +885,13 @@ public final class PromisesTest {
         due("not mended", account("X", "X", "X", "XV", "X", "XXV").mended(), NONE);
         due("mended", account("X", "X", "X", "XV", "X", "XXX").mended(), 2);
         due("not at the wrong one itself", account("X", "V", "X", "XV").mended(), NONE);
+        LetterSums x = account("X", "X", "X", "XV", "X", "XXX");
+        x.tear();
+        row(x, 0, "X");
+        row(x, 1, "XV");
+        x.line(0, 0);
+        x.line(0, 1);
+        due("torn lines mend nothing", x.mended(), NONE);
         due("later", account("X", "V", "X", "XV", "X", "XXV", "X", "XL", "X", "L").mended(), 3);
         due("by a second slip", account("X", "X", "X", "XV", "X", "XX", "X", "XL").mended(), 3);
     }
