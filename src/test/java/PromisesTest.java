@@ -1,105 +1,15 @@
 import java.lang.reflect.Method;
 
 /** Each promise of the document, by hand: ordinary inputs, the edges that it names, wrong inputs. */
-public final class PromisesTest {
-    private static final int NONE = -1, UNKNOWN = -101, OUTSIDE = -102, STATE = -103, FULL = -104;
-    private static final String USUAL = "M9,D1,C3,L1,X3,V1,I3,I<VX,X<LC,C<DM";
-    private static final String OLD = "M9,D1,C4,L1,X4,V1,I4,I<<X";
-
-    private static int wrong = 0;
-    private static int checked = 0;
-    private static int promise = 0;
-
-    private static void due(String what, long got, long want) {
-        checked++;
-        if (got != want) {
-            wrong++;
-            System.out.println("promise " + promise + ": " + what + " answered " + got + ", due is " + want);
-        }
-    }
-
-    /** Refusals change nothing: the digest stays. */
-    private static void refused(String what, LetterSums x, long before, long got, long want) {
-        due(what, got, want);
-        due(what + " leaves all as it was", x.digest() == before ? 1 : 0, 1);
-    }
-
-    private static long packed(String text) {
-        long w = 0;
-        for (int i = text.length() - 1; i >= 0; i--) {
-            w = w << 8 | text.charAt(i);
-        }
-        return w;
-    }
-
-    private static LetterSums page(LetterSums x, String text) {
-        x.blank();
-        for (int i = 0; i < text.length(); i += 8) {
-            x.letters(packed(text.substring(i, Math.min(text.length(), i + 8))));
-        }
-        return x;
-    }
-
-    private static LetterSums page(String text) {
-        return page(new LetterSums(), text);
-    }
-
-    private static int custom(LetterSums x, String text) {
-        return page(x, text).custom();
-    }
-
-    private static LetterSums customs(String... texts) {
-        LetterSums x = new LetterSums();
-        for (String text : texts) {
-            custom(x, text);
-        }
-        return x;
-    }
-
-    private static int row(LetterSums x, int r, String text) {
-        return page(x, text).row(r);
-    }
-
-    private static int stone(LetterSums x, String text) {
-        return page(x, text).stone();
-    }
-
-    private static int worthOf(String text) {
-        LetterSums x = new LetterSums();
-        row(x, 0, text);
-        return x.worth(0);
-    }
-
-    private static int keeps(String rules, String text) {
-        LetterSums x = customs(rules);
-        row(x, 0, text);
-        return x.keeps(0, 0);
-    }
-
-    private static int begins(String rules, String text) {
-        LetterSums x = customs(rules);
-        row(x, 0, text);
-        return x.begins(0, 0);
-    }
-
-    private static void same(LetterSums x, int r, String text) {
-        due("length of " + text, x.sign(r, text.length()), NONE);
-        for (int i = 0; i < text.length(); i++) {
-            due("sign " + i + " of " + text, x.sign(r, i), "IVXLCDMivxlcdm".indexOf(text.charAt(i)));
-        }
-    }
-
+public final class PromisesTest extends Bench {
     public static void main(String[] args) throws ReflectiveOperationException {
         for (promise = 1; promise <= 38; promise++) {
             Method method = PromisesTest.class.getDeclaredMethod("promise" + promise);
-            int before = checked;
+            int before = checkedSoFar();
             method.invoke(null);
-            due("tests of it", checked > before ? 1 : 0, 1);
+            due("tests of it", checkedSoFar() > before ? 1 : 0, 1);
         }
-        System.out.println("PromisesTest: " + checked + " answers, " + wrong + " are not as due");
-        if (wrong != 0) {
-            System.exit(1);
-        }
+        report("PromisesTest");
     }
 
     private static void promise1() {
@@ -475,12 +385,7 @@ public final class PromisesTest {
 
     /** 99 of a sign. */
     private static void fill(LetterSums x, String sign) {
-        row(x, 11, sign.repeat(24));
-        for (int i = 0; i < 4; i++) {
-            x.pour(11, true);
-        }
-        row(x, 11, sign.repeat(3));
-        x.pour(11, true);
+        pourSome(x, SIGNS.indexOf(sign), 99, true);
     }
 
     private static void promise17() {
@@ -856,17 +761,6 @@ public final class PromisesTest {
         due("none is wrong", x.wrong(), NONE);
         due("as before", x.digest(), before);
         due("first again", x.line(0, 0), 1);
-    }
-
-    /** Lines by worths: amount, total, amount, total, .. (each a row of usual signs). */
-    private static LetterSums account(String... texts) {
-        LetterSums x = new LetterSums();
-        for (int i = 0; i < texts.length; i += 2) {
-            row(x, 0, texts[i]);
-            row(x, 1, texts[i + 1]);
-            x.line(0, 1);
-        }
-        return x;
     }
 
     private static void promise34() {
