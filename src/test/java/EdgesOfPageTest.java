@@ -346,6 +346,10 @@ public final class EdgesOfPageTest extends Bench {
                 due("the page stays", x.count(1), 2);
             }
         }
+        for (String text : new String[] {"A", "AX", "XAX", "XXA", "A" + "X".repeat(23), "X".repeat(23) + "A", "*X", "X.", "X,"}) {
+            LetterSums bad = page(text);
+            refused("'" + text + "'", bad, bad.digest(), bad.row(0), STATE);
+        }
         LetterSums x = page("VX");
         refused("r", x, (y, r) -> y.row(r), UNKNOWN, LEAST, -1, 12, GREATEST);
         due("the first row", x.row(0), 2);

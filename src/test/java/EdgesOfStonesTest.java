@@ -77,6 +77,7 @@ public final class EdgesOfStonesTest extends Bench {
             boolean inside = SIGNS.indexOf(code) >= 0 || code == '.';
             stoneOf("X" + (char) code + "X", inside ? 3 : STATE);
             stoneOf("X" + (char) code, inside ? 2 : code == '*' ? 1 : STATE);
+            stoneOf((char) code + "X", inside ? 2 : STATE);
         }
         LetterSums x = page("X");
         long before = x.digest();
@@ -159,8 +160,13 @@ public final class EdgesOfStonesTest extends Bench {
             due("none at " + i, x.says(0, i), NONE);
         }
         due("they were done", x.count(5), 11);
-        refused("k", x, (y, k) -> y.says(k, 0), UNKNOWN, LEAST, -1, 1, 6, GREATEST);
-        refused("k, where there is none", x, (y, k) -> y.says(k, -1), UNKNOWN, -1, 1);
+        custom(x, "X3,V1,I1,I<X");
+        stone(x, "..");
+        // VI, IX, XI, XV, XX: by signs IX would be ahead of VI
+        says(x, 1, 6, 9, 11, 15, 20);
+        stone(x, "X.");
+        refused("k", x, (y, k) -> y.says(k, 0), UNKNOWN, LEAST, -1, 2, 6, GREATEST);
+        refused("k, where there is none", x, (y, k) -> y.says(k, -1), UNKNOWN, -1, 2);
         stone(x, "VX");
         due("no fillings", x.says(0, 0), NONE);
         LetterSums y = customs("m9,d9");
@@ -454,6 +460,8 @@ public final class EdgesOfStonesTest extends Bench {
         slip("total of 24: d in place of m", x, 1, 2, 23, 13);
         x = account("m".repeat(24), "m".repeat(24), "VVX", "m".repeat(23));
         slip("total of 23: one is left out", x, 1, 0, 0, 13);
+        noSlip("24 signs, and none explains it", account("m".repeat(24), "I"));
+        noSlip("a total of 24, too", account("MMM", "m".repeat(24)));
         slip("a total of one sign stays", account("VVX", "X"), 0, 0, 0, 2);
     }
 

@@ -180,13 +180,15 @@ public final class EdgesOfWritingsTest extends Bench {
         due("no writing", x.ways(0, 2), 0);
         due("greatest, which has none", x.ways(0, 9999999), 0);
         due("greatest, nine m and Im", x.ways(1, 9999999), 1);
+        due("it is written", x.write(0, 1, 9999999, 0), 11);
+        same(x, 0, "mmmmmmmmmIm");
         due("nine V", x.ways(2, 45), 1);
         due("ten V", x.ways(2, 50), 0);
-        due("how often", x.count(4), 6);
+        due("how often", x.count(4), 7);
         refused("n", x, (y, n) -> y.ways(0, n), OUTSIDE, LEAST, -1, 0, 10000000, GREATEST);
         refused("k", x, (y, k) -> y.ways(k, 1), UNKNOWN, LEAST, -1, 3, 6, GREATEST);
         refused("UNKNOWN ahead of OUTSIDE", x, (y, k) -> y.ways(k, 0), UNKNOWN, -1, 3);
-        due("refused ones are not done", x.count(4), 6);
+        due("refused ones are not done", x.count(4), 7);
         LetterSums none = new LetterSums();
         refused("no customs", none, (y, k) -> y.ways(k, 1), UNKNOWN, -1, 0);
     }
