@@ -1,6 +1,4 @@
 import java.io.IOException;
-import java.lang.reflect.Constructor;
-import java.lang.reflect.Executable;
 import java.lang.reflect.Field;
 import java.lang.reflect.Method;
 import java.lang.reflect.Modifier;
@@ -10,18 +8,11 @@ import java.util.ArrayList;
 import java.util.List;
 import java.util.Set;
 import java.util.TreeSet;
+import java.util.regex.Matcher;
+import java.util.regex.Pattern;
 
-/** The public face of the document, and those rules of LANGUAGE.md that can be looked up. */
+/** The public face, as the document writes it out, and what of LANGUAGE.md the text and the classes tell; LanguageTest has the rest. */
 public final class FaceTest {
-    private static final String[] FACE = {
-        "int letters(long)", "int blank()", "int good()", "int custom()", "int asks(int, int, int)",
-        "int row(int)", "int sign(int, int)", "int worth(int)", "int keeps(int, int)", "int begins(int, int)",
-        "int ways(int, int)", "int write(int, int, int, int)", "int board(int, int)", "int pour(int, boolean)",
-        "int bundle(int)", "int unbundle(int)", "int settle()", "int step(int)", "int holds()", "int lift(int)",
-        "int sweep()", "int times(int, int, int)", "int parts(int, int, int)", "int stone()", "int could(int)",
-        "int says(int, int)", "int sure(int, int)", "int note(int, int)", "int habit(int)", "int hands(int)",
-        "int line(int, int)", "int tear()", "int wrong()", "int mended()", "int slip(int)", "int count(int)",
-        "long digest()"};
     private static final String[] BANNED = {"->", "::", "catch", "throw", "Exact", "synchronized", "assert ", "finally",
         "import ", "System.", "double", "float", "instanceof", "Object", "hashCode", "toString", "yield", "native"};
 
@@ -44,9 +35,38 @@ public final class FaceTest {
         return m.getReturnType().getName() + " " + m.getName() + "(" + String.join(", ", types) + ")";
     }
 
-    private static void checkFace() {
+    /** A call as the document writes it, without the names of its parameters. */
+    private static String untold(String call) {
+        return call.replaceAll("(int|long|boolean) [a-z]+(?=[,)])", "$1");
+    }
+
+    private static List<String> found(String pattern, String text) {
+        List<String> all = new ArrayList<>();
+        Matcher m = Pattern.compile(pattern, Pattern.MULTILINE).matcher(text);
+        while (m.find()) {
+            all.add(m.group(1));
+        }
+        return all;
+    }
+
+    private static void checkDocument(String text) throws ReflectiveOperationException {
+        String face = found("(?s)```java(.*?)```", text).get(0);
+        List<String> calls = found("^    public ((?:int|long) .*);$", face);
+        List<String> headings = found("^`((?:int|long) .*)`: ", text);
+        holds("each call has its promise, in their order", calls.equals(headings) && calls.size() == 37);
+        for (String constant : found("([A-Z]+ = -?[0-9]+)", face)) {
+            String[] parts = constant.split(" = ");
+            holds(constant, LetterSums.class.getField(parts[0]).getInt(null) == Integer.parseInt(parts[1]));
+        }
+        checkFace(calls);
+    }
+
+    private static void checkFace(List<String> calls) {
         Class<?> c = LetterSums.class;
-        Set<String> want = new TreeSet<>(List.of(FACE));
+        Set<String> want = new TreeSet<>();
+        for (String call : calls) {
+            want.add(untold(call));
+        }
         Set<String> got = new TreeSet<>();
         Set<String> publicNames = new TreeSet<>();
         for (Method m : c.getDeclaredMethods()) {
@@ -95,19 +115,11 @@ public final class FaceTest {
                 holds(f + " is final or of an object", !isStatic || Modifier.isFinal(f.getModifiers()));
             }
             holds(c + " has at most twenty fields", fields <= 20);
-            List<Executable> calls = new ArrayList<>(List.of(c.getDeclaredMethods()));
-            for (Constructor<?> constructor : c.getDeclaredConstructors()) {
-                calls.add(constructor);
-            }
-            for (Executable call : calls) {
-                holds(call + " takes at most seven", call.getParameterCount() <= 7);
-            }
         }
     }
 
     private static void checkSource(Path path) throws IOException {
         List<String> lines = Files.readAllLines(path);
-        int start = 0;
         for (int i = 0; i < lines.size(); i++) {
             String line = lines.get(i);
             String code = line.trim();
@@ -117,17 +129,11 @@ public final class FaceTest {
             }
             holds("line " + (i + 1) + " has signs 1 to 126 alone", line.chars().allMatch(c -> c >= 32 && c <= 126));
             holds("line " + (i + 1) + " is not too long", line.length() <= 120);
-            if (code.endsWith("{") && code.contains("(") && code.matches("(public|private) .*")) {
-                start = i;
-            }
-            if (line.matches("( {4}| {8})}")) {
-                holds("the method at line " + (start + 1) + " is short", i - start <= 60 || line.startsWith("    }"));
-            }
         }
     }
 
-    public static void main(String[] args) throws IOException {
-        checkFace();
+    public static void main(String[] args) throws IOException, ReflectiveOperationException {
+        checkDocument(Files.readString(Path.of("../shared/DOC.md")));
         checkClasses();
         checkSource(Path.of("src/main/java/LetterSums.java"));
         System.out.println("FaceTest: " + checked + " rules looked up, " + wrong + " do not hold");
